@@ -374,7 +374,7 @@ public final class PinwheelKernel {
 
         /** To the first free place, and to every one that lies a multiple of the step behind it. */
         void giveTo(int id, int step) {
-            for (int at = firstFree(); at < length; at += step) {
+            for (int at = firstFree(); step > 0 && at < length; at += step) {
                 places[at] = id;
             }
         }
@@ -449,8 +449,10 @@ public final class PinwheelKernel {
             }
             into.clear(length);
             // Doubling from the base on meets every rounded span, the least first.
-            for (int step = base; step <= length; step += step) {
+            int step = base;
+            for (int k = 0; k <= MOST_DOUBLINGS && step <= length; k++) {
                 giveToAllWith(step, clients, into);
+                step *= 2;
             }
             return true;
         }
@@ -469,7 +471,7 @@ public final class PinwheelKernel {
         private int placesNeeded(int count, int length) {
             int needed = 0;
             for (int k = 0; k < count; k++) {
-                needed += length / rounded[k];
+                needed += rounded[k] > 0 ? length / rounded[k] : 0;
             }
             return needed;
         }
@@ -666,7 +668,7 @@ public final class PinwheelKernel {
         }
 
         private int digit(int state, int k) {
-            return state / weights[k] % spans[k];
+            return weights[k] > 0 && spans[k] > 0 ? state / weights[k] % spans[k] : 0;
         }
     }
 }

@@ -219,12 +219,12 @@ final class Model {
             rounded.put(client.id, r);
             length = Math.max(length, r);
         }
-        int thousandths = 0;
         int whole = base * 64;
+        int sum = 0;
         for (int r : rounded.values()) {
-            thousandths += whole / r;
+            sum += whole / r;
         }
-        if (thousandths > whole) {
+        if (sum > whole) {
             return null;
         }
         List<Client> order = new ArrayList<>(set.values());

@@ -16,7 +16,7 @@ public final class ModelTest {
     private final PinwheelKernel x = new PinwheelKernel();
     private final Model model = new Model();
     private final int[] spans;
-    private String log = "";
+    private int calls = 0;
 
     private ModelTest(Check check, int seed, int[] spans) {
         this.check = check;
@@ -117,10 +117,8 @@ public final class ModelTest {
     }
 
     private void compare(String call, LongSupplier asked, LongSupplier due) {
-        String got = outcome(asked);
-        log += call + " " + got + "; ";
-        check.dueText("seed " + seed + ": " + call + " after " + log.length() + " letters of calls",
-                outcome(due), got);
+        calls++;
+        check.dueText("seed " + seed + ", call " + calls + ": " + call, outcome(due), outcome(asked));
     }
 
     private static String outcome(LongSupplier call) {
