@@ -3,6 +3,17 @@ import java.util.function.LongSupplier;
 /** What all tests share: answers that are due, exceptions that are due, and how a test ends. */
 final class Check {
     private int wrong = 0;
+    private String sentence = "";
+
+    /** Which sentence of the document the next calls stand for; it is told with each wrong answer. */
+    void sentence(String text) {
+        sentence = "[" + text + "] ";
+    }
+
+    /** The same, for one of several tests of a sentence. */
+    void sentence(String text, String where) {
+        sentence(text + " -- " + where);
+    }
 
     void due(String call, long want, long got) {
         if (got != want) {
@@ -58,11 +69,26 @@ final class Check {
         PinwheelKernel x = new PinwheelKernel();
         for (int k = 0; k < idsAndSpans.length; k += 2) {
             x.ask(idsAndSpans[k], idsAndSpans[k + 1]);
-            for (int tries = 0; tries < 40 && x.about(1) != PinwheelKernel.NONE; tries++) {
-                x.slot();
-            }
+            toTheSeam(x);
         }
         return x;
+    }
+
+    /** The same, with the ids 1, 2, .. */
+    static PinwheelKernel withSpans(int... spans) {
+        PinwheelKernel x = new PinwheelKernel();
+        for (int k = 0; k < spans.length; k++) {
+            x.ask(k + 1, spans[k]);
+            toTheSeam(x);
+        }
+        return x;
+    }
+
+    /** Slots until nothing waits. */
+    static void toTheSeam(PinwheelKernel x) {
+        for (int tries = 0; tries < 40 && x.about(1) != PinwheelKernel.NONE; tries++) {
+            x.slot();
+        }
     }
 
     /** All that can be seen of an object, to tell that a call that threw changed nothing. */
@@ -71,6 +97,8 @@ final class Check {
         for (int what = 0; what <= 6; what++) {
             all.append(x.about(what)).append(' ');
         }
+        all.append("| ").append(x.density(0)).append(' ').append(x.density(1)).append(' ');
+        all.append(x.feasible()).append(' ');
         for (int k = 0; k < x.about(2); k++) {
             int id = x.client(k);
             all.append("| ").append(id).append(' ').append(x.span(id)).append(' ');
@@ -93,7 +121,7 @@ final class Check {
     private void tell(String text) {
         wrong++;
         if (wrong <= 20) {
-            System.out.println(text);
+            System.out.println(sentence + text);
         }
     }
 }

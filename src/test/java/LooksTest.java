@@ -67,9 +67,7 @@ public final class LooksTest {
         }
         x.drop(4);
         C.due("client(1) while it leaves", 4, x.client(1));
-        for (int tries = 0; tries < 40 && x.about(1) != PinwheelKernel.NONE; tries++) {
-            x.slot();
-        }
+        Check.toTheSeam(x);
         C.due("client(1) then", 500, x.client(1));
         C.dueThrow("client(3) then", IndexOutOfBoundsException.class, () -> x.client(3));
     }

@@ -28,7 +28,7 @@ public final class SumsTest {
     }
 
     private static void fraction(long numerator, long denominator, int... spans) {
-        PinwheelKernel x = withSpans(spans);
+        PinwheelKernel x = Check.withSpans(spans);
         String of = " of " + java.util.Arrays.toString(spans);
         C.due("density(0)" + of, numerator, x.density(0));
         C.due("density(1)" + of, denominator, x.density(1));
@@ -55,15 +55,6 @@ public final class SumsTest {
     }
 
     private static void isFeasible(int due, int... spans) {
-        C.due("feasible() of " + java.util.Arrays.toString(spans), due, withSpans(spans).feasible());
-    }
-
-    private static PinwheelKernel withSpans(int... spans) {
-        int[] idsAndSpans = new int[spans.length * 2];
-        for (int k = 0; k < spans.length; k++) {
-            idsAndSpans[2 * k] = k + 1;
-            idsAndSpans[2 * k + 1] = spans[k];
-        }
-        return Check.with(idsAndSpans);
+        C.due("feasible() of " + java.util.Arrays.toString(spans), due, Check.withSpans(spans).feasible());
     }
 }

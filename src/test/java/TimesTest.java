@@ -76,9 +76,7 @@ public final class TimesTest {
         C.due("span(900)", 17, x.span(900));
         x.drop(5);
         C.due("span(5) while it leaves", 40, x.span(5));
-        for (int tries = 0; tries < 40 && x.about(1) != PinwheelKernel.NONE; tries++) {
-            x.slot();
-        }
+        Check.toTheSeam(x);
         C.dueThrow("span(5)", NoSuchElementException.class, () -> x.span(5));
         C.due("span(3)", 3, x.span(3));
         C.due("span(900)", 17, x.span(900));
